@@ -17,6 +17,7 @@ public final class PromisesTest {
         promise11Across();
         promise12Order();
         promise13Way();
+        promises11To13Together();
         promise14Box();
         promise15Moment();
         promise16Leaf();
@@ -353,6 +354,63 @@ public final class PromisesTest {
             due("13: by j, then i; of a box by numbers", f.way(31, 31, 4, k, 1), whole[k]);
         }
         due("13: no more", f.way(31, 31, 4, 5, 1), -1);
+    }
+
+    /** Many points, each number of the kernel in use, boxes of every level. */
+    private static FarSums crowd() {
+        FarSums f = new FarSums();
+        for (int a = 0; a <= 4; a++) {
+            for (int b = 0; a + b <= 4; b++) {
+                f.kernel(a, b, (a + b) % 2 == 0 ? 9 - a - 2 * b : a + b - 8);
+            }
+        }
+        for (int p = 0; p < 40; p++) {
+            f.point(p < 20 ? p * 37 % 64 : 30 + p % 5, p < 20 ? p * 23 % 64 : 33 - p % 3, 900 - 47 * p);
+        }
+        return f;
+    }
+
+    private static void promises11To13Together() {
+        due("13: the crowd goes to the last level", crowd().count(3), 5);
+        for (int n = 0; n < 64; n++) {
+            for (int t = 1; t <= 4; t++) {
+                int x = n * 29 % 64;
+                int y = n * 43 % 64;
+                endsHold(crowd(), x, y, t);
+                wayIsWhole(crowd(), x, y, t);
+            }
+        }
+    }
+
+    private static void endsHold(FarSums f, int x, int y, int t) {
+        long exact = f.sum(x, y);
+        due("11: nothing is left out by 4", f.across(x, y, 4, t, 0), exact);
+        due("11: so its end is 0", f.across(x, y, 4, t, 1), 0);
+        for (int o = 0; o <= 4; o++) {
+            long off = Math.abs(f.across(x, y, o, t, 0) - exact);
+            long end = f.across(x, y, o, t, 1);
+            CHECK.holds("11: off by no more than the end", off <= end);
+            int least = f.order(x, y, t, end);
+            CHECK.holds("12: the order whose end it is would do", least <= o);
+            CHECK.holds("12: its end is no more", f.across(x, y, least, t, 1) <= end);
+            CHECK.holds("12: the one below would not do",
+                least == 0 || f.across(x, y, least - 1, t, 1) > end);
+        }
+    }
+
+    private static void wayIsWhole(FarSums f, int x, int y, int t) {
+        long asked = f.across(x, y, 0, t, 2);
+        CHECK.holds("11: no more parts than points", asked >= 1 && asked <= 40);
+        // A wrong cost is told above; it must not keep the test from ending.
+        int cost = (int) Math.max(0, Math.min(40, asked));
+        int within = 0;
+        for (int k = 0; k < cost; k++) {
+            int level = f.way(x, y, t, k, 0);
+            int first = f.way(x, y, t, k, 1);
+            within += level == -1 ? 1 : f.box(level, first, f.way(x, y, t, k, 2), 0);
+        }
+        due("13: every point is in a part of it", within, 40);
+        due("13: it has as many parts as the cost", f.way(x, y, t, cost, 1), -1);
     }
 
     private static void promise14Box() {
