@@ -114,10 +114,12 @@ public final class AcrossEdgesTest {
     static void powersOfTwo() {
         long[] wholes = {16, 16 * 63, 16 * 3969, 16L * 250047, 16L * 15752961};
         for (int n = 0; n <= 4; n++) {
-            Run alongX = pair("of C(a, b) times 2 to the (4 - a - b)-th,", 0, 0, n, 0, 1);
-            alongX.due(2 * wholes[n], "across", 63, 63, n, 1, 0);
-            Run alongY = pair("of C(a, b) times 2 to the (4 - a - b)-th,", 0, 0, 0, n, 1);
-            alongY.due(2 * wholes[n], "across", 63, 63, n, 1, 0);
+            for (int c : new int[] {-9, -1, 1, 9}) {
+                Run alongX = pair("of C(a, b) times 2 to the (4 - a - b)-th,", 0, 0, n, 0, c);
+                alongX.due(2 * c * wholes[n], "across", 63, 63, n, 1, 0);
+                Run alongY = pair("of C(a, b) times 2 to the (4 - a - b)-th,", 0, 0, 0, n, c);
+                alongY.due(2 * c * wholes[n], "across", 63, 63, n, 1, 0);
+            }
         }
     }
 
@@ -233,7 +235,10 @@ public final class AcrossEdgesTest {
         run.due(NONE, "way", 0, 0, 1, 2, 1);
     }
 
-    /** { t, the first x from which LEVELS 5, 4, .. are far by X, the LEVEL 0 BOX's never }. */
+    /**
+     * In each row t, then from how far on the BOXES of LEVELS 5, 4, .. in a corner are far. X and
+     * Y are odd, so 2 S t itself is never met: one PLACE less gives 2 S t - 1, this 2 S t + 1.
+     */
     private static final int[][] JUST_FAR = {
         {1, 3, 6, 12, 24, 48}, {2, 5, 10, 20, 40}, {3, 7, 14, 28, 56}, {4, 9, 18, 36}};
 
@@ -300,6 +305,31 @@ public final class AcrossEdgesTest {
         run.due(NONE, "way", 31, 31, 4, 4, 1);
     }
 
+    /** The same of every BOX of LEVELS 1 to 4, with a POINT at each of its corners. */
+    static void byJThenIOfEveryBox() {
+        for (int level = 1; level <= 4; level++) {
+            for (int i = 0; i < 1 << level; i++) {
+                for (int j = 0; j < 1 << level; j++) {
+                    byJThenIOf(level, i, j);
+                }
+            }
+        }
+    }
+
+    private static void byJThenIOf(int level, int i, int j) {
+        int s = 64 >> level;
+        Run run = TESTS.says(GOES_ON);
+        run.call("capacity", 1);
+        run.due(0, "point", i * s + s - 1, j * s + s - 1, 1);
+        run.due(1, "point", i * s, j * s + s - 1, 1);
+        run.due(2, "point", i * s + s - 1, j * s, 1);
+        run.due(3, "point", i * s, j * s, 1);
+        for (int k = 0; k < 4; k++) {
+            run.dueInTurn(new long[] {NONE, 3 - k, NONE}, "way", i * s + s / 2, j * s + s / 2, 4, k);
+        }
+        run.due(NONE, "way", i * s + s / 2, j * s + s / 2, 4, 4, 1);
+    }
+
     /** From 0, 0 the three other BOXES of LEVEL 1 are far: (1, 0), then (0, 1), then (1, 1). */
     static void termsByJThenI() {
         Run run = TESTS.says(GOES_ON);
@@ -350,6 +380,10 @@ public final class AcrossEdgesTest {
         run.due(sum, "across", 2, 0, 0, 1, 0);
         run.due(0, "across", 2, 0, 0, 1, 1);
         run.holds("just farther there is an END", run.call("across", 3, 0, 0, 1, 1) > 0);
+        Run alongY = pair(PULLS, 0, 0, 0, 4, 9);
+        alongY.due(sum, "across", 0, 2, 0, 1, 0);
+        alongY.due(0, "across", 0, 2, 0, 1, 1);
+        alongY.holds("just farther there is an END", alongY.call("across", 0, 3, 0, 1, 1) > 0);
     }
 
     /** LEVEL 5 is never SPLIT: forty POINTS in it are forty PULLS. */

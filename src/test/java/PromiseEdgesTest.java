@@ -181,6 +181,31 @@ public final class PromiseEdgesTest {
         run.refused(NOT, "across", 63, 63, 0, 5, 2);
     }
 
+    /** Far by X alone, or by Y alone; X and Y are 95 and -31, or -31 and 95. */
+    static void p11AcrossToASide() {
+        Run run = twoFar("ACROSS: ABOUT (what = 0), THE END (1), THE COST (2). BAD: NOT.");
+        run.due(0, "kernel", 0, 1, 3);
+        run.dueInTurn(new long[] {8 * 6 * (95 - 93), 8 * 14 * (31 + 93), 1}, "across", 63, 0, 0, 1);
+        run.dueInTurn(new long[] {8 * 6 * (-31 + 285), 8 * 14 * (31 + 93), 1}, "across", 0, 63, 0, 1);
+        run.due(0, "kernel", 1, 1, 1);
+        run.due(8 * 14 * 124 + 4 * 14 * (31 * 126 + 961), "across", 63, 0, 0, 1, 1);
+        run.due(8 * 14 * 124 + 4 * 14 * (31 * 126 + 961), "across", 0, 63, 0, 1, 1);
+    }
+
+    static void p12NoMoreThanEToASide() {
+        for (int[] place : new int[][] {{63, 0}, {0, 63}}) {
+            Run run = twoFar("The least ORDER for which THE END is no more than e");
+            run.call("kernel", 1, 0, 0);
+            run.call("kernel", 1, 1, 1);
+            long byNothing = 4 * 14 * (31 * 126 + 961);
+            long byOne = 4 * 14 * 961;
+            run.due(0, "order", place[0], place[1], 1, byNothing);
+            run.due(1, "order", place[0], place[1], 1, byNothing - 1);
+            run.due(1, "order", place[0], place[1], 1, byOne);
+            run.due(2, "order", place[0], place[1], 1, byOne - 1);
+        }
+    }
+
     static void p12NoMoreThanE() {
         Run run = twoFar("The least ORDER for which THE END is no more than e (0 or more). BAD.");
         run.due(0, "order", 63, 63, 1, 3473);
@@ -314,6 +339,22 @@ public final class PromiseEdgesTest {
         run.due(1, "take", 1);
         run.due(0, "leaf", 0, 0);
         run.due(0, "leaf", 63, 63);
+    }
+
+    static void p17ByHowFar() {
+        Run run = TESTS.says(NEAREST);
+        run.call("point", 40, 20, 1);
+        run.call("point", 31, 10, 1);
+        run.call("point", 10, 40, 1);
+        run.call("point", 40, 11, 1);
+        run.dueInTurn(new long[] {3, 1, 0, 2, NONE}, "nearest", 40, 10);
+        run.dueInTurn(new long[] {2, 1, 0, 3, NONE}, "nearest", 10, 30);
+        // 10 along x and 10 along y are farther than 14 along one, nearer than 15.
+        run.call("move", 0, 30, 30);
+        run.call("move", 1, 20, 34);
+        run.call("move", 2, 35, 20);
+        run.call("move", 3, 20, 4);
+        run.dueInTurn(new long[] {1, 0, 2, 3, NONE}, "nearest", 20, 20);
     }
 
     static void p17AsFarByNumbers() {
@@ -492,6 +533,31 @@ public final class PromiseEdgesTest {
             2, -31 * 2, -31 * 2,
             4, -31 * 4, -31 * 4,
             0, 0, 0), "digest");
+    }
+
+    /** Two POINTS, at 62, 3 and 63, 2, in one BOX of the last LEVEL. */
+    static void p20TheLastLevel() {
+        Run run = TESTS.says("of BOXES that are there, by LEVEL, j, i, "
+            + "MOMENTS (0, 0), (1, 0), (0, 1).");
+        run.call("capacity", 1);
+        run.call("point", 62, 3, 5);
+        run.call("point", 63, 2, -2);
+        long[] all = new long[6 + 2 * 6 + 15 + 1 + 21 * 3];
+        long[] start = {2, 21, 5, 5, 0, 7, 0, 62, 3, 5, 0, 0, 1, 63, 2, -2, 0, 0, 1};
+        System.arraycopy(start, 0, all, 0, start.length);
+        all[33] = 1;
+        // The BOX of each LEVEL with both POINTS, and where it stands among its four.
+        int[][] withBoth = {{0, 0, 0}, {1, 0, 1}, {3, 0, 1}, {7, 0, 1}, {15, 0, 1}, {31, 1, 3}};
+        for (int level = 0; level <= 5; level++) {
+            int s = 64 >> level;
+            int middleX = 2 * withBoth[level][0] * s + s - 1;
+            int middleY = 2 * withBoth[level][1] * s + s - 1;
+            int index = 34 + 3 * (level == 0 ? 0 : 4 * level - 3 + withBoth[level][2]);
+            all[index] = 3;
+            all[index + 1] = 5 * (2 * 62 - middleX) - 2 * (2 * 63 - middleX);
+            all[index + 2] = 5 * (2 * 3 - middleY) - 2 * (2 * 2 - middleY);
+        }
+        run.due(digestOf(all), "digest");
     }
 
     static void p20Factors() {

@@ -1,3 +1,5 @@
+import java.util.Arrays;
+
 /** Calls on one new FarSums, held against what one sentence of the document says. */
 final class Run {
     static final long LEAST = Integer.MIN_VALUE, MOST = Integer.MAX_VALUE;
@@ -33,7 +35,7 @@ final class Run {
 
     /** The answers when the last number of the call, a "what" or a k, goes from 0 on. */
     void dueInTurn(long[] wants, String method, long... numbers) {
-        long[] tried = java.util.Arrays.copyOf(numbers, numbers.length + 1);
+        long[] tried = Arrays.copyOf(numbers, numbers.length + 1);
         for (int n = 0; n < wants.length; n++) {
             tried[numbers.length] = n;
             due(wants[n], method, tried);
@@ -62,7 +64,7 @@ final class Run {
     }
 
     private String told(String method, long... numbers) {
-        String all = java.util.Arrays.toString(numbers);
+        String all = Arrays.toString(numbers);
         return "\"" + sentence + "\": " + method + "(" + all.substring(1, all.length() - 1) + ")";
     }
 

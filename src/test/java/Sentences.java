@@ -4,6 +4,7 @@ import java.nio.file.Files;
 import java.nio.file.Path;
 import java.util.Arrays;
 import java.util.Comparator;
+import java.util.regex.Pattern;
 
 /**
  * Tests of single sentences of the document. Each begins by quoting its sentence, and a quote
@@ -21,7 +22,7 @@ final class Sentences {
     Run says(String sentence) {
         quotes++;
         if (!document.isEmpty()) {
-            for (String piece : sentence.split(java.util.regex.Pattern.quote(APART))) {
+            for (String piece : sentence.split(Pattern.quote(APART))) {
                 check.holds("the document says \"" + piece + "\"", document.contains(piece));
             }
         }
